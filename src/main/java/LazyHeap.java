@@ -445,7 +445,7 @@ public final class LazyHeap {
         }
 
         /** The recursion ends where the most thunks that may run are running. */
-        int evaluate(int object) {
+        private int evaluate(int object) {
             if (cells.kinds[object] != THUNK) {
                 return object;
             }
@@ -546,6 +546,7 @@ public final class LazyHeap {
                 case PRODUCT:
                     return x * y;
                 default:
+                    // A quotient by 0 has failed before: this only keeps the division itself safe.
                     return y == 0 ? 0 : x / y;
             }
         }

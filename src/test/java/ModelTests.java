@@ -2,14 +2,19 @@ import java.util.ArrayList;
 import java.util.IdentityHashMap;
 import java.util.List;
 import java.util.Random;
+import java.util.TreeSet;
 
 /**
  * Runs of 512 calls, the same each time, on LazyHeap and on a second heap that follows the words of
  * the document: links are objects that are followed, and the spaces are lists of objects.
  */
 public final class ModelTests {
-    private static final int RUNS = 6000;
+    private static final int RUNS = 3000;
     private static final int CALLS = 512;
+
+    private interface Heap {
+        String answer(Call c);
+    }
 
     private enum Kind { NUMBER, PAIR, THUNK, LINK }
 
@@ -45,7 +50,7 @@ public final class ModelTests {
         }
     }
 
-    private static final class Model {
+    private static final class Model implements Heap {
         final Thing[] roots = new Thing[8];
         List<Thing> young = new ArrayList<>();
         List<Thing> old = new ArrayList<>();
@@ -336,9 +341,62 @@ public final class ModelTests {
             }
             return counts[which];
         }
+
+        void copy(int to, int r) {
+            inRange(to);
+            inRange(r);
+            roots[to] = roots[r];
+        }
+
+        void drop(int r) {
+            inRange(r);
+            roots[r] = null;
+        }
+
+        @Override
+        public String answer(Call c) {
+            switch (c.name) {
+                case "number": return "" + make(c.i, Kind.NUMBER, c.j, 0, 0);
+                case "pair": return "" + make(c.i, Kind.PAIR, 0, c.j, c.k);
+                case "thunk": return "" + make(c.i, Kind.THUNK, c.j, c.k, c.l);
+                case "tie": tie(c.i, c.j); return "done";
+                case "force": return "" + force(c.i);
+                case "part": part(c.i, c.j, c.k == 1); return "done";
+                case "copy": copy(c.i, c.j); return "done";
+                case "drop": drop(c.i); return "done";
+                case "kind": return "" + kind(c.i);
+                case "value": return "" + value(c.i);
+                case "same": return "" + same(c.i, c.j);
+                case "collect": return "" + collect(c.i == 1);
+                default: return "" + count(c.i);
+            }
+        }
     }
 
-    /** One call's name and arguments. */
+    private static final class Tested implements Heap {
+        final LazyHeap x = new LazyHeap();
+
+        @Override
+        public String answer(Call c) {
+            switch (c.name) {
+                case "number": return "" + x.number(c.i, c.j);
+                case "pair": return "" + x.pair(c.i, c.j, c.k);
+                case "thunk": return "" + x.thunk(c.i, c.j, c.k, c.l);
+                case "tie": x.tie(c.i, c.j); return "done";
+                case "force": return "" + x.force(c.i);
+                case "part": x.part(c.i, c.j, c.k == 1); return "done";
+                case "copy": x.copy(c.i, c.j); return "done";
+                case "drop": x.drop(c.i); return "done";
+                case "kind": return "" + x.kind(c.i);
+                case "value": return "" + x.value(c.i);
+                case "same": return "" + x.same(c.i, c.j);
+                case "collect": return "" + x.collect(c.i == 1);
+                default: return "" + x.count(c.i);
+            }
+        }
+    }
+
+    /** One call's name and arguments, as many as it takes. */
     private static final class Call {
         final String name;
         final int i;
@@ -354,53 +412,43 @@ public final class ModelTests {
             this.l = l;
         }
 
+        @Override
         public String toString() {
             return name + "(" + i + ", " + j + ", " + k + ", " + l + ")";
         }
     }
 
-    private static String answer(LazyHeap x, Call c) {
+    private static final String[] OTHERS = {
+        "part", "part", "copy", "copy", "drop", "tie", "tie", "kind", "value", "same", "collect", "count"};
+
+    /** How each kind of call ended in some run: all ways there are must be among them. */
+    private static final TreeSet<String> ENDS = new TreeSet<>();
+
+    private static String answer(Heap heap, Call c) {
         try {
-            switch (c.name) {
-                case "number": return "" + x.number(c.i, c.j);
-                case "pair": return "" + x.pair(c.i, c.j, c.k);
-                case "thunk": return "" + x.thunk(c.i, c.j, c.k, c.l);
-                case "tie": x.tie(c.i, c.j); return "done";
-                case "force": return "" + x.force(c.i);
-                case "part": x.part(c.i, c.j, c.k % 2 == 1); return "done";
-                case "copy": x.copy(c.i, c.j); return "done";
-                case "drop": x.drop(c.i); return "done";
-                case "kind": return "" + x.kind(c.i);
-                case "value": return "" + x.value(c.i);
-                case "same": return "" + x.same(c.i, c.j);
-                case "collect": return "" + x.collect(c.i % 2 == 1);
-                default: return "" + x.count(c.i);
-            }
+            return heap.answer(c);
         } catch (RuntimeException e) {
             return e.getClass().getSimpleName();
         }
     }
 
-    private static String answer(Model x, Call c) {
-        try {
-            switch (c.name) {
-                case "number": return "" + x.make(c.i, Kind.NUMBER, c.j, 0, 0);
-                case "pair": return "" + x.make(c.i, Kind.PAIR, 0, c.j, c.k);
-                case "thunk": return "" + x.make(c.i, Kind.THUNK, c.j, c.k, c.l);
-                case "tie": x.tie(c.i, c.j); return "done";
-                case "force": return "" + x.force(c.i);
-                case "part": x.part(c.i, c.j, c.k % 2 == 1); return "done";
-                case "copy": Model.inRange(c.i); Model.inRange(c.j); x.roots[c.i] = x.roots[c.j]; return "done";
-                case "drop": Model.inRange(c.i); x.roots[c.i] = null; return "done";
-                case "kind": return "" + x.kind(c.i);
-                case "value": return "" + x.value(c.i);
-                case "same": return "" + x.same(c.i, c.j);
-                case "collect": return "" + x.collect(c.i % 2 == 1);
-                default: return "" + x.count(c.i);
-            }
-        } catch (RuntimeException e) {
-            return e.getClass().getSimpleName();
+    /** All that answers show without changing it: the counts, and what the roots hold. */
+    private static String shown(Heap heap) {
+        StringBuilder text = new StringBuilder();
+        for (int which = 0; which < 7; which++) {
+            text.append(' ').append(answer(heap, new Call("count", which, 0, 0, 0)));
         }
+        for (int r = 0; r < 8; r++) {
+            String kind = answer(heap, new Call("kind", r, 0, 0, 0));
+            text.append(' ').append(kind);
+            if (kind.equals("1") || kind.equals("5")) {
+                text.append('=').append(answer(heap, new Call("value", r, 0, 0, 0)));
+            }
+            for (int s = 0; s < r; s++) {
+                text.append(answer(heap, new Call("same", r, s, 0, 0)).charAt(0));
+            }
+        }
+        return text.toString();
     }
 
     private static int someRoot(Random random, int roots) {
@@ -411,104 +459,67 @@ public final class ModelTests {
         return random.nextInt(8) == 0 ? random.nextInt() : random.nextInt(5) - 2;
     }
 
-    private static final String[] OTHERS = {
-        "part", "part", "copy", "copy", "drop", "tie", "tie", "kind", "value", "same", "collect", "count"};
+    private static int someOperation(Random random) {
+        return random.nextInt(100) == 0 ? random.nextInt(20) - 5 : random.nextInt(9);
+    }
 
-    private static Call someCall(Random random, int roots, int makeWeight, int forceWeight) {
+    private static Call someMaking(Random random, int roots) {
+        int r = someRoot(random, roots);
+        int a = someRoot(random, roots);
+        int b = someRoot(random, roots);
+        int dice = random.nextInt(8);
+        if (dice < 2) {
+            return new Call("number", r, someNumber(random), 0, 0);
+        }
+        return dice < 4 ? new Call("pair", r, a, b, 0) : new Call("thunk", r, someOperation(random), a, b);
+    }
+
+    private static Call someOther(Random random, int roots) {
         int i = someRoot(random, roots);
         int j = someRoot(random, roots);
-        int k = someRoot(random, roots);
-        int l = someRoot(random, roots);
-        int dice = random.nextInt(100);
-        if (dice < forceWeight) {
-            return new Call("force", i, 0, 0, 0);
-        }
-        if (dice < forceWeight + makeWeight) {
-            int what = random.nextInt(6);
-            if (what < 1) {
-                return new Call("number", i, someNumber(random), 0, 0);
-            }
-            return what < 3 ? new Call("pair", i, j, k, 0) : new Call("thunk", i, random.nextInt(9), k, l);
-        }
         String name = OTHERS[random.nextInt(OTHERS.length)];
-        if (name.equals("collect") && random.nextInt(3) != 0) {
-            name = "force";
+        if (name.equals("collect")) {
+            return new Call(name, random.nextInt(2), 0, 0, 0);
         }
-        return new Call(name, i, j, name.equals("part") ? random.nextInt(2) : k, l);
+        return new Call(name, i, j, random.nextInt(2), 0);
     }
 
-    /** After each call: what the roots hold and the counts, which tell of no call's doing by halves. */
-    private static String shown(LazyHeap x) {
-        StringBuilder text = new StringBuilder();
-        for (int which = 0; which < 7; which++) {
-            text.append(' ').append(x.count(which));
+    private static Call someCall(Random random, int roots, int makings, int forces) {
+        int dice = random.nextInt(100);
+        if (dice < makings) {
+            return someMaking(random, roots);
         }
-        for (int r = 0; r < 8; r++) {
-            int kind = x.kind(r);
-            text.append(' ').append(kind);
-            if (kind == 1 || kind == 5) {
-                text.append('=').append(x.value(r));
-            }
-            for (int s = 0; s < r; s++) {
-                text.append(x.same(r, s) ? '1' : '0');
-            }
-        }
-        return text.toString();
-    }
-
-    private static String shown(Model x) {
-        StringBuilder text = new StringBuilder();
-        for (int which = 0; which < 7; which++) {
-            text.append(' ').append(x.count(which));
-        }
-        for (int r = 0; r < 8; r++) {
-            int kind = x.kind(r);
-            text.append(' ').append(kind);
-            if (kind == 1 || kind == 5) {
-                text.append('=').append(x.value(r));
-            }
-            for (int s = 0; s < r; s++) {
-                text.append(x.same(r, s) ? '1' : '0');
-            }
-        }
-        return text.toString();
+        return dice < makings + forces
+                ? new Call("force", someRoot(random, roots), 0, 0, 0)
+                : someOther(random, roots);
     }
 
     private static boolean runIsAsDue(int run) {
         Random random = new Random(run);
         int roots = 3 + random.nextInt(6);
-        int makeWeight = 30 + random.nextInt(45);
-        int forceWeight = random.nextInt(25);
-        LazyHeap x = new LazyHeap();
-        Model model = new Model();
-        for (int r = 0; r < roots; r++) {
-            answer(x, new Call("number", r, r, 0, 0));
-            answer(model, new Call("number", r, r, 0, 0));
-        }
-        for (int n = 0; n < CALLS - roots; n++) {
-            Call c = someCall(random, roots, makeWeight, forceWeight);
-            String got = answer(x, c) + shown(x);
-            String want = answer(model, c) + shown(model);
-            if (!got.equals(want)) {
-                System.out.println("run " + run + ", call " + n + ": " + c + " answered\n  " + got + ", due is\n  " + want);
+        int makings = 30 + random.nextInt(45);
+        int forces = random.nextInt(25);
+        Heap tested = new Tested();
+        Heap model = new Model();
+        boolean crowded = false;
+        for (int n = 0; n < CALLS; n++) {
+            // A run that has no room left would show little else from then on.
+            Call c = n < roots ? new Call("number", n, n, 0, 0)
+                    : crowded && random.nextInt(3) == 0 ? new Call("drop", someRoot(random, roots), 0, 0, 0)
+                    : someCall(random, roots, makings, forces);
+            String want = answer(model, c);
+            String got = answer(tested, c);
+            String wantShown = shown(model);
+            String gotShown = shown(tested);
+            if (!got.equals(want) || !gotShown.equals(wantShown)) {
+                System.out.println("run " + run + ", call " + n + ": " + c + " answered " + got + " and shows"
+                        + gotShown + ", due is " + want + " and" + wantShown);
                 return false;
             }
-            if (c.name.equals("force")) {
-                tally(want);
-            }
-            if (want.startsWith("Uns")) {
-                tally("other" + want);
-            }
+            crowded = want.equals("UnsupportedOperationException");
+            ENDS.add(c.name + (want.endsWith("Exception") ? " " + want : ""));
         }
-        mostFulls = Math.max(mostFulls, model.fulls);
         return true;
-    }
-
-    private static final java.util.TreeMap<String, Integer> TALLY = new java.util.TreeMap<>();
-    private static int mostFulls = 0;
-
-    private static void tally(String answer) {
-        TALLY.merge(answer.substring(0, answer.indexOf(' ')), 1, Integer::sum);
     }
 
     public static void main(String[] args) {
@@ -518,8 +529,12 @@ public final class ModelTests {
                 wrong++;
             }
         }
-        System.out.println("forces by answer: " + TALLY + ", most full collections in a run: " + mostFulls);
-        System.out.println(wrong == 0 ? RUNS + " runs are as due" : wrong + " runs are not as due");
+        // 13 calls that answer, and the 24 exceptions that their headings list.
+        if (wrong == 0 && ENDS.size() != 13 + 24) {
+            wrong++;
+            System.out.println("the runs show " + ENDS.size() + " ways for a call to end: " + ENDS);
+        }
+        System.out.println(wrong == 0 ? RUNS + " runs are as due" : wrong + " faults");
         if (wrong != 0) {
             System.exit(1);
         }

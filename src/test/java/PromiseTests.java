@@ -19,9 +19,7 @@ public final class PromiseTests {
 
     private static final int YOUNG_WORDS = 0;
     private static final int OLD_WORDS = 1;
-    private static final int MINOR = 2;
     private static final int FULL = 3;
-    private static final int GROWN_OLD = 4;
     private static final int REMEMBERED = 5;
     private static final int LINKED = 6;
 
@@ -868,8 +866,10 @@ public final class PromiseTests {
         x.collect(false);
         x.number(2, 7);
         x.tie(1, 2);
-        x.collect(true);
-        due("nor after a full one", x.count(REMEMBERED), 0);
+        x.drop(1);
+        x.drop(2);
+        due("a full one does not ask for what is remembered", x.collect(true), 2);
+        due("nothing is remembered after a full one", x.count(REMEMBERED), 0);
     }
 
     private static void collectsAtTheEdge() {
@@ -888,6 +888,10 @@ public final class PromiseTests {
         }
         dueThrowUnchanged(x, "minor at 82 words", NO_ROOM, () -> x.collect(false));
         due("full at 82 words", x.collect(true), 42);
+        for (int made = 0; made < 13; made++) {
+            x.pair(1, 0, 0);
+        }
+        due("minor at 81 words", throwing(() -> x.collect(false)), true);
         collectsAtTheEdgeOfTheOldRoom();
     }
 
@@ -904,6 +908,10 @@ public final class PromiseTests {
         due("full of 83 words", throwing(() -> x.collect(true)), true);
         x.part(1, 1, false);
         due("full of 80 words again", x.collect(true), 80);
+        x.part(1, 1, false);
+        x.number(2, 1);
+        x.number(3, 2);
+        dueThrowUnchanged(x, "full of 81 words", NO_ROOM, () -> x.collect(true));
     }
 
     private static boolean throwing(Call call) {
