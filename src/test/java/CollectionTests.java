@@ -67,6 +67,20 @@ public final class CollectionTests extends Checks {
         due("a minor one then", y.collect(false), 80);
     }
 
+    private static void bothSpacesFull() {
+        sentence(YOUNG_ROOM);
+        LazyHeap x = ofNumbers(100, 101, 102, 103);
+        useOld(x, 80);
+        for (int made = 0; made < 20; made++) {
+            x.number(4 + made % 4, made);
+        }
+        dueCounts(x, "60 numbers", 40, 80);
+        for (int r = 0; r < 4; r++) {
+            due("the first of them", x.value(r), 100 + r);
+            due("the last of them", x.value(4 + r), 16 + r);
+        }
+    }
+
     private static void usedWords() {
         sentence("(all that were made or kept since they were emptied last, also when nothing holds them any more)");
         LazyHeap x = ofNumbers(1, 2);
@@ -128,7 +142,7 @@ public final class CollectionTests extends Checks {
     }
 
     private static void noCollectionWhenThereIsRoom() {
-        sentence("if the words USED by young objects and its size are more than 40, there is a collection");
+        sentence("if the words USED by young objects (..) and its size are more than 40, there is a collection");
         LazyHeap x = withWords(38, 80);
         int minors = x.count(MINOR);
         due("a number at 38 young and 80 old words", x.number(2, 1), 40);
@@ -343,6 +357,52 @@ public final class CollectionTests extends Checks {
         due("ones that only hold one another", y.collect(false), 2);
     }
 
+    private static void nothingIsLeftOfThem() {
+        sentence("All other young objects are gone");
+        for (int full = 0; full <= 1; full++) {
+            LazyHeap x = ofNumbers(1, 2);
+            x.pair(2, 0, 1);
+            x.pair(3, 1, 0);
+            for (int r = 0; r < 4; r++) {
+                x.drop(r);
+            }
+            due("all are gone", x.collect(full == 1), 0);
+            // Where a program keeps the new numbers in the places of the old ones and of the pairs.
+            for (int r = 0; r < 4; r++) {
+                x.number(r, r);
+            }
+            x.drop(0);
+            x.drop(1);
+            due("new numbers hold nothing of what was there before", x.collect(false), 4);
+            due("values", x.value(2) * 10 + x.value(3), 23);
+        }
+    }
+
+    private static void manyCollections() {
+        sentence("An object is used for at most 512 calls after it has been made");
+        LazyHeap x = new LazyHeap();
+        for (int made = 0; made < 500; made++) {
+            x.number(made % 8, made);
+        }
+        for (int r = 0; r < 8; r++) {
+            due("value(" + r + ") after 500 numbers", x.value(r), r < 4 ? 496 + r : 488 + r);
+        }
+        LazyHeap y = ofNumbers(1, 0);
+        for (int made = 0; made < 250; made++) {
+            y.thunk(1, SUM, 1, 0);
+            y.force(1);
+        }
+        due("value after 250 sums", y.value(1), 250);
+        due("links", y.count(LINKED), 250);
+        LazyHeap z = ofNumbers(1, 2);
+        for (int made = 0; made < 250; made++) {
+            z.pair(2 + made % 3, 0, 1);
+            z.part(5 + made % 3, 2 + made % 3, made % 2 == 0);
+        }
+        due("parts after 250 pairs", z.value(5) * 100 + z.value(6) * 10 + z.value(7), 112);
+        due("live words", z.collect(true), 13);
+    }
+
     // ---- a full collection ----
 
     private static void liveObjects() {
@@ -420,6 +480,25 @@ public final class CollectionTests extends Checks {
         due("what was old is gone too", x.collect(true), 2);
         x.drop(0);
         due("all are gone", x.collect(true), 0);
+    }
+
+    private static void runningThunksAreKept() {
+        sentence("(A running thunk is itself needed, and live.");
+        LazyHeap x = ofNumbers(3);
+        x.thunk(1, SUM, 0, 0);
+        chainThunks(x, 1, 1, 6);
+        useYoung(x, 40);
+        due("a sum under 6 thunks, that needs a minor collection", x.force(1) * 10 + x.value(1), 16);
+        dueCounts(x, "then", 2, 30, 1, 0, 8, 7, 7);
+        LazyHeap y = ofNumbers(3);
+        y.thunk(1, SUM, 0, 0);
+        chainThunks(y, 1, 1, 11);
+        useOld(y, 80);
+        useYoung(y, 40);
+        due("a sum under 11 thunks, that needs a full collection", y.force(1) * 10 + y.value(1), 16);
+        due("full collections", y.count(FULL), 1);
+        due("old words", y.count(OLD_WORDS), 50);
+        due("remembered", y.count(REMEMBERED), 12);
     }
 
     private static void linksAreHeldNoMore() {
@@ -653,6 +732,7 @@ public final class CollectionTests extends Checks {
         madeYoung();
         roomForYoungObjects();
         roomForOldObjects();
+        bothSpacesFull();
         usedWords();
         whichCollection();
         noCollectionWhenThereIsRoom();
@@ -664,10 +744,13 @@ public final class CollectionTests extends Checks {
         heldByNeededObjects();
         youngLinks();
         othersAreGone();
+        nothingIsLeftOfThem();
+        manyCollections();
         liveObjects();
         linksAreNotLive();
         tooManyLiveWords();
         allAreOld();
+        runningThunksAreKept();
         linksAreHeldNoMore();
         rememberedTies();
         rememberedLinks();

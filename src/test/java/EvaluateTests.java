@@ -100,6 +100,19 @@ public final class EvaluateTests extends Checks {
         dueThrowUnchanged(x, "value of a link to a pair", NO_ARGUMENT, () -> x.value(6));
     }
 
+    private static void linksHeldByEachRoot() {
+        sentence(LINK_IS_MEANT);
+        for (int r = 0; r < 8; r++) {
+            LazyHeap x = ofNumbers(0, 1, 2, 3, 4, 5, 6, 7);
+            int other = (r + 1) % 8;
+            x.thunk(r, SUM, other, other);
+            x.copy(other, r);
+            x.force(other);
+            due("kind(" + r + ")", x.kind(r), 1);
+            due("value(" + r + ")", x.value(r), 2 * other);
+        }
+    }
+
     private static void linksHeldByPairs() {
         sentence(LINK_IS_MEANT);
         LazyHeap x = ofNumbers(5);
@@ -165,7 +178,7 @@ public final class EvaluateTests extends Checks {
     }
 
     private static void sums() {
-        sentence("0 SUM (of a and b, as ints go round)");
+        sentence("0 SUM (.. of a and b, as ints go round)");
         due("6 + 7", reckoned(SUM, 6, 7), 13);
         due("MAX + 1", reckoned(SUM, MAX, 1), MIN);
         due("MIN + -1", reckoned(SUM, MIN, -1), MAX);
@@ -173,7 +186,7 @@ public final class EvaluateTests extends Checks {
     }
 
     private static void differences() {
-        sentence("1 DIFFERENCE (of a and b, as ints go round)");
+        sentence("1 DIFFERENCE (.. of a and b, as ints go round)");
         due("6 - 7", reckoned(DIFFERENCE, 6, 7), -1);
         due("7 - 6", reckoned(DIFFERENCE, 7, 6), 1);
         due("MIN - 1", reckoned(DIFFERENCE, MIN, 1), MAX);
@@ -462,6 +475,21 @@ public final class EvaluateTests extends Checks {
         dueThrowUnchanged(x, "no rescue from LOOP", NO_STATE, () -> x.force(3));
     }
 
+    private static void sameOfThunks() {
+        sentence("8: a is evaluated: its value is the value.");
+        LazyHeap x = withFailing();
+        x.thunk(3, SUM, 0, 0);
+        x.thunk(4, SAME, 3, 2);
+        due("same of a thunk that gives a number", x.force(4) * 10 + x.value(4), 12);
+        due("is its value", x.same(4, 3), true);
+        x.pair(5, 2, 2);
+        x.thunk(6, SAME, 5, 2);
+        x.thunk(7, SAME, 6, 2);
+        due("same of a thunk that gives a pair", x.force(7), 2);
+        due("is the pair", x.same(7, 5), true);
+        dueFailing(x, SAME, 2, 0, NO_ARITHMETIC);
+    }
+
     private static void becomingLinks() {
         sentence("A thunk that gets a value becomes a link to it.");
         for (int operation = SUM; operation <= SAME; operation++) {
@@ -717,6 +745,7 @@ public final class EvaluateTests extends Checks {
         sizes();
         linksOfLinks();
         linksHeldByRoots();
+        linksHeldByEachRoot();
         linksHeldByPairs();
         linksHeldByThunks();
         linksAreNotShownByAge();
@@ -739,6 +768,7 @@ public final class EvaluateTests extends Checks {
         choicesThatFail();
         chosenAreEvaluated();
         rescuesFromZeroAndKind();
+        sameOfThunks();
         becomingLinks();
         failsLikewise();
         failedThunks();

@@ -6,7 +6,8 @@ import java.util.TreeSet;
 
 /**
  * Runs of 512 calls, the same each time, on LazyHeap and on a second heap that follows the words of
- * the document: links are objects that are followed, and the spaces are lists of objects.
+ * the document: links are objects that are followed, and the spaces are lists of objects. The calls
+ * that show all after each of them are more than the document promises; LazyHeap answers them too.
  */
 public final class ModelTests {
     private static final int RUNS = 3000;
