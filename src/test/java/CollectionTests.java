@@ -606,6 +606,17 @@ public final class CollectionTests extends Checks {
         y.force(2);
         y.tie(1, 3);
         due("tied to a young link to an old number", y.count(REMEMBERED), 0);
+        // The tie is not what makes it hold the young number, so it is not remembered for that.
+        LazyHeap z = ofNumbers(1);
+        z.thunk(1, SUM, 0, 0);
+        z.thunk(2, SUM, 1, 0);
+        z.collect(false);
+        z.force(1);
+        z.tie(2, 0);
+        due("tied to an old number, while its a is an old link to a young one", z.count(REMEMBERED), 1);
+        z.drop(1);
+        z.collect(false);
+        due("its a is kept all the same", z.force(2) * 10 + z.value(2), 13);
     }
 
     private static void rememberedUntilTheNext() {
